@@ -211,7 +211,7 @@ public final class LoopLifter {
 
     /** A set of blocks or places is an int with a bit for each: there are at most 32. */
     private static boolean holds(int set, int member) {
-        return (set >>> member & 1) != 0;
+        return ((set >>> member) & 1) != 0;
     }
 
     private static boolean endsBlock(int op) {
@@ -278,11 +278,11 @@ public final class LoopLifter {
             int height = 0;
             for (int place = 0; place < size; place++) {
                 int op = ops[place];
-                if (holds(named, place) && height != 0 || height < TAKES[op]) {
+                if ((height != 0 && holds(named, place)) || height < TAKES[op]) {
                     return place;
                 }
                 height = height - TAKES[op] + PUTS[op];
-                if (height > STACK || endsBlock(op) && height != 0 || leadsNowhere(place)) {
+                if (height > STACK || (height != 0 && endsBlock(op)) || leadsNowhere(place)) {
                     return place;
                 }
             }
@@ -413,7 +413,7 @@ public final class LoopLifter {
                 return false;
             }
             int before = dominators[to];
-            dominators[to] = before & (dominators[from] | 1 << to);
+            dominators[to] = before & (dominators[from] | (1 << to));
             return dominators[to] != before;
         }
 
@@ -451,7 +451,7 @@ public final class LoopLifter {
             if (holds(entered, to)) {
                 joins |= 1 << to;
             }
-            return entered | 1 << to;
+            return entered | (1 << to);
         }
 
         int firstTangledPlace() {
