@@ -108,9 +108,10 @@ final class FaceTest {
             if (line.startsWith("import ")) {
                 Check.same("an import", line, "import java.util.NoSuchElementException;");
             }
-            // Methods of the classes inside end at eight blanks, those of the class itself at four.
-            boolean ends = line.equals("    }") || line.equals("        }") || line.isEmpty();
-            methodLines = ends ? 0 : methodLines + 1;
+            // Methods begin and end at four blanks, those of the classes inside at eight.
+            boolean begins = line.matches("( {4}| {8})\\w.*\\(.*");
+            boolean ends = line.matches(" {4}( {4})?\\}");
+            methodLines = begins ? 1 : ends || methodLines == 0 ? 0 : methodLines + 1;
             Check.same("a long method at " + line, methodLines > 60, false);
         }
     }
