@@ -469,6 +469,27 @@ public final class LoopLifter {
         }
     }
 
+    /** Sound code never takes from an empty stack nor puts on a full one; still nothing breaks. */
+    private static final class NumberStack {
+        final int[] numbers = new int[STACK];
+        int height = 0;
+
+        void put(int number) {
+            if (height < STACK) {
+                numbers[height] = number;
+                height++;
+            }
+        }
+
+        int take() {
+            if (height == 0) {
+                return 0;
+            }
+            height--;
+            return numbers[height];
+        }
+    }
+
     /**
      * What comes of the instructions of the blocks that count: statements, and the expressions in
      * them as nodes. An instruction makes at most one node and one statement; a temporary makes one
@@ -496,8 +517,7 @@ public final class LoopLifter {
         final int[] conditions = new int[PLACES];
         int temporaries = 0;
 
-        private final int[] stack = new int[STACK];
-        private int height = 0;
+        private final NumberStack stack = new NumberStack();
         private int nodes = 0;
         private int statementCount = 0;
         private int blockTemporaries = 0;
@@ -512,7 +532,7 @@ public final class LoopLifter {
         }
 
         private void readBlock(Flow flow, int b) {
-            height = 0;
+            stack.height = 0;
             blockTemporaries = 0;
             firsts[b] = statementCount;
             conditions[b] = NONE;
@@ -526,36 +546,36 @@ public final class LoopLifter {
         private void readInstruction(int b, int op, int x) {
             switch (op) {
                 case PUSH:
-                    put(node(PUSH, x, NONE, 0));
+                    stack.put(node(PUSH, x, NONE, 0));
                     break;
                 case LOAD:
-                    put(node(LOAD, x, NONE, 1 << x));
+                    stack.put(node(LOAD, x, NONE, 1 << x));
                     break;
                 case STORE:
-                    store(x, take());
+                    store(x, stack.take());
                     break;
                 case OUT:
-                    write(OUT, NONE, take());
+                    write(OUT, NONE, stack.take());
                     break;
                 case ZERO:
-                    conditions[b] = take();
+                    conditions[b] = stack.take();
                     break;
                 case JUMP:
                 case STOP:
                     break;
                 default:
-                    int right = take();
-                    int left = take();
-                    put(node(op, left, right, nodeVariables[left] | nodeVariables[right]));
+                    int right = stack.take();
+                    int left = stack.take();
+                    stack.put(node(op, left, right, nodeVariables[left] | nodeVariables[right]));
                     break;
             }
         }
 
         private void store(int variable, int expression) {
-            for (int i = 0; i < height; i++) {
-                if (holds(nodeVariables[stack[i]], variable)) {
-                    write(TEMPORARY, blockTemporaries, stack[i]);
-                    stack[i] = node(TEMPORARY, blockTemporaries, NONE, 0);
+            for (int i = 0; i < stack.height; i++) {
+                if (holds(nodeVariables[stack.numbers[i]], variable)) {
+                    write(TEMPORARY, blockTemporaries, stack.numbers[i]);
+                    stack.numbers[i] = node(TEMPORARY, blockTemporaries, NONE, 0);
                     blockTemporaries++;
                 }
             }
@@ -582,21 +602,6 @@ public final class LoopLifter {
             targets[statementCount] = target;
             expressions[statementCount] = expression;
             statementCount++;
-        }
-
-        private void put(int expression) {
-            if (height < STACK) {
-                stack[height] = expression;
-                height++;
-            }
-        }
-
-        private int take() {
-            if (height == 0) {
-                return 0;
-            }
-            height--;
-            return stack[height];
         }
     }
 
@@ -918,8 +923,7 @@ public final class LoopLifter {
     /** Machine 0: it is always at a block. */
     private static final class CodeMachine extends Machine {
         private final Flow flow;
-        private final int[] stack = new int[STACK];
-        private int height = 0;
+        private final NumberStack stack = new NumberStack();
 
         CodeMachine(Flow flow) {
             this.flow = flow;
@@ -927,11 +931,11 @@ public final class LoopLifter {
 
         @Override
         int doBlock(int b) {
-            height = 0;
+            stack.height = 0;
             boolean zero = false;
             for (int place = flow.starts[b]; place < flow.starts[b + 1]; place++) {
                 if (flow.code.ops[place] == ZERO) {
-                    zero = take() == 0;
+                    zero = stack.take() == 0;
                 } else {
                     doInstruction(flow.code.ops[place], flow.code.xs[place]);
                 }
@@ -943,41 +947,26 @@ public final class LoopLifter {
         private void doInstruction(int op, int x) {
             switch (op) {
                 case PUSH:
-                    put(x);
+                    stack.put(x);
                     break;
                 case LOAD:
-                    put(latest.variables[x]);
+                    stack.put(latest.variables[x]);
                     break;
                 case STORE:
-                    latest.variables[x] = take();
+                    latest.variables[x] = stack.take();
                     break;
                 case OUT:
-                    latest.noteOut(take());
+                    latest.noteOut(stack.take());
                     break;
                 case JUMP:
                 case STOP:
                     break;
                 default:
-                    int b = take();
-                    int a = take();
-                    put(calculate(op, a, b));
+                    int b = stack.take();
+                    int a = stack.take();
+                    stack.put(calculate(op, a, b));
                     break;
             }
-        }
-
-        private void put(int number) {
-            if (height < STACK) {
-                stack[height] = number;
-                height++;
-            }
-        }
-
-        private int take() {
-            if (height == 0) {
-                return 0;
-            }
-            height--;
-            return stack[height];
         }
     }
 
