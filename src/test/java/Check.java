@@ -12,14 +12,36 @@ final class Check {
 
     private static int compared = 0;
     private static int wrong = 0;
+    private static int sentences = 0;
+    private static String words = "";
 
     private Check() {}
+
+    /** Runs the test of one sentence of the document; what is wrong in it is told with its words. */
+    static void sentence(String itsWords, Runnable test) {
+        int before = compared;
+        words = "\"" + itsWords + "\": ";
+        sentences++;
+        try {
+            test.run();
+        } catch (RuntimeException e) {
+            tellWrong("the test ended with " + e);
+        }
+        if (compared == before) {
+            tellWrong("the test compared nothing");
+        }
+        words = "";
+    }
+
+    private static void tellWrong(String what) {
+        wrong++;
+        System.out.println(words + what);
+    }
 
     static void same(String what, Object got, Object due) {
         compared++;
         if (!got.equals(due)) {
-            wrong++;
-            System.out.println(what + " answered " + got + ", due is " + due);
+            tellWrong(what + " answered " + got + ", due is " + due);
         }
     }
 
@@ -34,12 +56,12 @@ final class Check {
             }
             got = e.getClass().getName();
         }
-        wrong++;
-        System.out.println(what + " answered " + got + ", due is " + due.getName());
+        tellWrong(what + " answered " + got + ", due is " + due.getName());
     }
 
     static void end() {
-        System.out.println(compared + " answers compared, " + wrong + " wrong");
+        String tested = sentences == 0 ? "" : sentences + " sentences tested, ";
+        System.out.println(tested + compared + " answers compared, " + wrong + " wrong");
         if (wrong != 0 || compared == 0) {
             System.exit(1);
         }

