@@ -209,6 +209,7 @@ final class PromiseTest {
 
     private static void promise4() {
         Check.sentence("4: Lifts the code: how many blocks count", PromiseTest::liftCounts);
+        Check.sentence("4: Lifts the code", PromiseTest::liftsAgainAndAgain);
         Check.sentence("4: there are no runs then", PromiseTest::noRunsBehindLift);
         Check.sentence("4: IllegalArgumentException: it is not sound", PromiseTest::liftOfUnsoundCode);
         Check.sentence("4: UnsupportedOperationException: it is tangled", PromiseTest::liftOfTangledCode);
@@ -224,6 +225,25 @@ final class PromiseTest {
         Check.same("lift of another code", Check.write(x, Check.code(Expect.DIAMOND)).lift(), 4);
         Check.same("lift of a smaller code", Check.write(x, Check.code("STOP")).lift(), 1);
         Check.same("count of it", x.count(0), 1);
+    }
+
+    private static void liftsAgainAndAgain() {
+        // As many statements and expressions as there is room for, so that nothing may pile up.
+        String code = Expect.times(3, "LOAD 0, LOAD 0, LOAD 0, PUSH 1, STORE 0, OUT, OUT, OUT") + ", STOP";
+        LoopLifter lifted = Check.lifted(code);
+        int length = lifted.count(4);
+        for (int n = 0; n < 60; n++) {
+            Check.same("lift again", lifted.lift(), 1);
+            Check.same("temporaries behind it", lifted.count(3), 9);
+            Check.same("characters behind it", lifted.count(4), length);
+        }
+        lifted.give(0, 7);
+        Expect.eachMachine(lifted, (x, machine) -> {
+            Check.same("run", x.run(machine, 300), 1);
+            Check.same("outs", x.outs(machine), 9);
+            Check.same("the latest", x.out(machine, 0), 1);
+            Check.same("the first", x.out(machine, 8), 7);
+        });
     }
 
     private static void noRunsBehindLift() {

@@ -1,9 +1,10 @@
-/** The sentences under "Terms", each with a test of its own at the boundaries that it names. */
+/** The sentences under "What it is" and "Terms", each with a test of its own at the boundaries that it names. */
 final class TermsTest {
     private static final int LEAST = Expect.LEAST;
     private static final int GREATEST = Expect.GREATEST;
 
     public static void main(String[] args) {
+        Check.sentence("An object is used for at most 512 calls after it has been made", TermsTest::calls512);
         theCode();
         soundness();
         theBlocks();
@@ -15,6 +16,22 @@ final class TermsTest {
                 TermsTest::theFirstOneListed);
         Check.sentence("What throws or is refused changes nothing but as said.", TermsTest::changesNothing);
         Check.end();
+    }
+
+    private static void calls512() {
+        // Three calls write and lift the code, and the 512th is the last of the rest.
+        LoopLifter x = new LoopLifter();
+        Check.same("call 1", x.add(9, 1), 0);
+        Check.same("call 2", x.add(9, 0), 1);
+        Check.same("call 3", x.lift(), 2);
+        for (int call = 4; call < 512; call += 4) {
+            int machine = call / 4 % 2;
+            Check.same("call " + call, x.run(machine, 300), 300);
+            Check.same("call " + (call + 1), x.done(machine, 299), 1);
+            Check.isThrown("call " + (call + 2), Expect.ARGUMENT, () -> x.count(5));
+            Check.same("call " + (call + 3), x.lift(), 2);
+        }
+        Check.same("call 512", x.add(11, 0), 2);
     }
 
     private static void theCode() {
@@ -412,6 +429,8 @@ final class TermsTest {
         // Of the two ways to block 3 each comes by block 0 alone.
         Expect.blocks(Expect.DIAMOND, 3, -1, 0, 0, 0);
         Expect.sound("LOAD 0, ZERO 3, JUMP 3, JUMP 0", 3);
+        // A way may come by an edge that goes back: by blocks 3 and 2 to block 4, not by block 1.
+        Expect.tangled("LOAD 0, ZERO 6, LOAD 1, OUT, LOAD 2, ZERO 7, JUMP 4, JUMP 2", 7);
     }
 
     private static void tangled() {
