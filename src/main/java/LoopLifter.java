@@ -635,9 +635,13 @@ public final class LoopLifter {
             }
         }
 
-        /** Digits are taken from the number as it is, as the least int has no positive one. */
+        /**
+         * In parentheses if it is below 0, which no label is. Digits are taken from the number as it
+         * is, as the least int has no positive one.
+         */
         void putNumber(int number) {
             if (number < 0) {
+                put('(');
                 put('-');
             }
             boolean begun = false;
@@ -647,6 +651,9 @@ public final class LoopLifter {
                 if (begun) {
                     put((char) ('0' + digit));
                 }
+            }
+            if (number < 0) {
+                put(')');
             }
         }
 
@@ -776,12 +783,17 @@ public final class LoopLifter {
         }
 
         private void statement(int s) {
-            int kind = statements.kinds[s];
-            if (kind == OUT) {
-                written.putAll("out ");
-            } else {
-                name(kind == TEMPORARY ? TEMPORARY : LOAD, statements.targets[s]);
-                written.put('=');
+            switch (statements.kinds[s]) {
+                case OUT:
+                    written.putAll("out ");
+                    break;
+                case TEMPORARY:
+                    written.putLabelled("t", statements.targets[s], "=");
+                    break;
+                default:
+                    written.put((char) ('a' + statements.targets[s]));
+                    written.put('=');
+                    break;
             }
             expression(statements.expressions[s], 0);
             written.put(';');
@@ -794,32 +806,24 @@ public final class LoopLifter {
             }
             int kind = statements.nodeKinds[node];
             int left = statements.nodeLefts[node];
-            if (kind == PUSH) {
-                number(left);
-            } else if (kind == LOAD || kind == TEMPORARY) {
-                name(kind, left);
-            } else {
-                written.put('(');
-                expression(left, depth + 1);
-                written.put(SIGNS.charAt(kind - ADD));
-                expression(statements.nodeRights[node], depth + 1);
-                written.put(')');
-            }
-        }
-
-        private void number(int x) {
-            if (x < 0) {
-                written.putLabelled("(", x, ")");
-            } else {
-                written.putNumber(x);
-            }
-        }
-
-        private void name(int kind, int which) {
-            if (kind == TEMPORARY) {
-                written.putLabelled("t", which, "");
-            } else {
-                written.put((char) ('a' + which));
+            switch (kind) {
+                case PUSH:
+                    written.putNumber(left);
+                    break;
+                case LOAD:
+                    written.put((char) ('a' + left));
+                    break;
+                case TEMPORARY:
+                    written.put('t');
+                    written.putNumber(left);
+                    break;
+                default:
+                    written.put('(');
+                    expression(left, depth + 1);
+                    written.put(SIGNS.charAt(kind - ADD));
+                    expression(statements.nodeRights[node], depth + 1);
+                    written.put(')');
+                    break;
             }
         }
 

